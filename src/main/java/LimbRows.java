@@ -260,14 +260,16 @@ public final class LimbRows {
             }
         }
 
+        /** Only the limbs that a's number needs are gone through, as wide rows often hold short numbers. */
         private void addProductOf(Row a, Row b) {
-            int used = Math.min(a.width, width);
+            int needed = a.bitLength() / 32 + 1;
+            int used = Math.min(needed, width);
             for (int k = 0; k < used; k++) {
                 addMultiple(k, unsigned(a.limbs[k]), b);
             }
-            // The limbs of a, taken as a number without sign, are 2^(32 width) too much then.
+            // Those limbs, taken as a number without sign, are 2^(32 needed) too much then.
             if (a.isNegative()) {
-                subtractFrom(a.width, b);
+                subtractFrom(needed, b);
             }
         }
 
