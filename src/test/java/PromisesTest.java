@@ -1,9 +1,8 @@
 import java.math.BigInteger;
 import java.util.Arrays;
 
-/** Each promise by itself: ordinary inputs, the edges that the document names, and wrong inputs. */
+/** Each promise by itself, swept over widths and numbers beside BigInteger; the refused calls are RefusalsTest's. */
 public final class PromisesTest {
-    private static final int[] NO_ROWS = {-1, 64, 65, Integer.MIN_VALUE, Integer.MAX_VALUE};
     private static final BigInteger ONE = BigInteger.ONE;
 
     private PromisesTest() {
@@ -35,33 +34,12 @@ public final class PromisesTest {
         Checks.finish();
     }
 
-    /** An object whose rows differ in width and number, so that a wrong change shows. */
-    private static LimbRows filled() {
-        LimbRows x = new LimbRows();
-        Checks.give(x, 0, 1, Checks.big(-7));
-        Checks.give(x, 1, 2, Checks.power(62).add(Checks.big(5)));
-        Checks.give(x, 2, 3, Checks.power(95).negate());
-        Checks.give(x, 62, 4, Checks.big(12345));
-        Checks.give(x, 63, 256, Checks.power(8191).subtract(ONE));
-        return x;
-    }
-
     private static LimbRows with(int n, BigInteger v) {
-        LimbRows x = new LimbRows();
-        Checks.give(x, 0, n, v);
-        return x;
+        return Checks.with(n, v);
     }
 
     private static LimbRows with(int n, long v) {
-        return with(n, Checks.big(v));
-    }
-
-    private static void dueNumber(String call, LimbRows x, int r, BigInteger want) {
-        Checks.due(call + " then the number", Checks.number(x, r), want);
-    }
-
-    private static void dueNumber(String call, LimbRows x, int r, long want) {
-        dueNumber(call, x, r, Checks.big(want));
+        return Checks.with(n, Checks.big(v));
     }
 
     private static void newObject() {
@@ -92,15 +70,6 @@ public final class PromisesTest {
         widenOne(256, Long.MAX_VALUE, 1, false);
         narrowAndWiden();
         middleLimbsCount();
-        for (int r : NO_ROWS) {
-            LimbRows y = filled();
-            Checks.dueNoRow("widen(" + r + ", 2)", y, () -> y.widen(r, 2));
-            Checks.dueNoRow("widen(" + r + ", 0)", y, () -> y.widen(r, 0));
-        }
-        for (int n : new int[] {0, -1, 257, Integer.MIN_VALUE, Integer.MAX_VALUE}) {
-            LimbRows y = filled();
-            Checks.dueBadArgument("widen(1, " + n + ")", y, () -> y.widen(1, n));
-        }
     }
 
     private static void widenOne(int from, long v, int n, boolean fits) {
@@ -108,15 +77,15 @@ public final class PromisesTest {
         LimbRows x = with(from, v);
         Checks.due(call, x.widen(0, n), fits);
         Checks.due(call + " then width(0)", x.width(0), n);
-        dueNumber(call, x, 0, Checks.kept(Checks.big(v), n));
+        Checks.dueNumber(call, x, 0, Checks.kept(Checks.big(v), n));
     }
 
     private static void narrowAndWiden() {
         LimbRows x = with(4, Checks.power(100).add(Checks.big(77)));
         Checks.due("narrow: widen(0, 2)", x.widen(0, 2), false);
-        dueNumber("narrow: widen(0, 2)", x, 0, 77);
+        Checks.dueNumber("narrow: widen(0, 2)", x, 0, 77);
         Checks.due("and wide again: widen(0, 4)", x.widen(0, 4), true);
-        dueNumber("and wide again: widen(0, 4)", x, 0, 77);
+        Checks.dueNumber("and wide again: widen(0, 4)", x, 0, 77);
     }
 
     private static void middleLimbsCount() {
@@ -124,18 +93,16 @@ public final class PromisesTest {
         Checks.due("2^64 in 4 limbs: widen(0, 2)", x.widen(0, 2), false);
         LimbRows y = with(4, Checks.power(64).negate());
         Checks.due("-2^64 in 4 limbs: widen(0, 2)", y.widen(0, 2), false);
-        dueNumber("-2^64 in 4 limbs: widen(0, 2)", y, 0, 0);
+        Checks.dueNumber("-2^64 in 4 limbs: widen(0, 2)", y, 0, 0);
     }
 
     private static void width() {
-        LimbRows x = filled();
+        LimbRows x = Checks.filled();
         Checks.due("width(0)", x.width(0), 1);
         Checks.due("width(2)", x.width(2), 3);
         Checks.due("width(63)", x.width(63), 256);
-        Checks.due("width(3)", x.width(3), 1);
-        for (int r : NO_ROWS) {
-            Checks.dueNoRow("width(" + r + ")", x, () -> x.width(r));
-        }
+        Checks.due("width(3)", x.width(3), 2);
+        Checks.due("width(4)", x.width(4), 1);
     }
 
     private static void set() {
@@ -146,36 +113,23 @@ public final class PromisesTest {
                 String call = n + " limbs: set(0, " + v + ")";
                 LimbRows x = with(n, Checks.power(32 * n - 2).negate().subtract(ONE));
                 Checks.due(call, x.set(0, v), n > 1 || v >= Integer.MIN_VALUE && v <= Integer.MAX_VALUE);
-                dueNumber(call, x, 0, Checks.kept(Checks.big(v), n));
+                Checks.dueNumber(call, x, 0, Checks.kept(Checks.big(v), n));
                 Checks.due(call + " then width(0)", x.width(0), n);
             }
-        }
-        LimbRows y = filled();
-        for (int r : NO_ROWS) {
-            Checks.dueNoRow("set(" + r + ", 1)", y, () -> y.set(r, 1));
         }
     }
 
     private static void put() {
         LimbRows x = with(3, 5);
         Checks.due("put(0, 2, MIN)", x.put(0, 2, Integer.MIN_VALUE), 0);
-        dueNumber("put(0, 2, MIN)", x, 0, Checks.power(95).negate().add(Checks.big(5)));
+        Checks.dueNumber("put(0, 2, MIN)", x, 0, Checks.power(95).negate().add(Checks.big(5)));
         Checks.due("put(0, 0, -1)", x.put(0, 0, -1), 5);
         Checks.due("put(0, 2, 1)", x.put(0, 2, 1), Integer.MIN_VALUE);
-        dueNumber("put(0, 2, 1)", x, 0, Checks.power(64).add(Checks.big(0xFFFFFFFFL)));
+        Checks.dueNumber("put(0, 2, 1)", x, 0, Checks.power(64).add(Checks.big(0xFFFFFFFFL)));
         Checks.due("put(63, 0, 8)", x.put(63, 0, 8), 0);
         Checks.due("put(63, 0, 9)", x.put(63, 0, 9), 8);
-        LimbRows y = filled();
+        LimbRows y = Checks.filled();
         Checks.due("put(63, 255, 7)", y.put(63, 255, 7), Integer.MAX_VALUE);
-        for (int r : NO_ROWS) {
-            Checks.dueNoRow("put(" + r + ", 0, 1)", y, () -> y.put(r, 0, 1));
-        }
-        for (int k : new int[] {-1, 3, 4, 256, Integer.MIN_VALUE, Integer.MAX_VALUE}) {
-            Checks.dueNoRow("put(2, " + k + ", 1)", y, () -> y.put(2, k, 1));
-        }
-        Checks.dueNoRow("put(63, 256, 1)", y, () -> y.put(63, 256, 1));
-        y.widen(63, 2);
-        Checks.dueNoRow("narrowed: put(63, 2, 1)", y, () -> y.put(63, 2, 1));
     }
 
     private static void limb() {
@@ -189,15 +143,10 @@ public final class PromisesTest {
         for (int k : new int[] {1, 2, 3, 255, 256, 257, Integer.MAX_VALUE}) {
             Checks.due("-2: limb(0, " + k + ")", x.limb(0, k), -1);
         }
-        LimbRows y = filled();
+        LimbRows y = Checks.filled();
         y.widen(63, 1);
         y.set(63, 3);
         Checks.due("narrowed: limb(63, 1)", y.limb(63, 1), 0);
-        for (int r : NO_ROWS) {
-            Checks.dueNoRow("limb(" + r + ", 0)", y, () -> y.limb(r, 0));
-        }
-        Checks.dueNoRow("limb(1, -1)", y, () -> y.limb(1, -1));
-        Checks.dueNoRow("limb(1, MIN)", y, () -> y.limb(1, Integer.MIN_VALUE));
     }
 
     private static void copy() {
@@ -207,16 +156,12 @@ public final class PromisesTest {
         copyOne(2, -0x80000000L, 1, true);
         copyOne(3, Long.MIN_VALUE, 2, true);
         copyOne(256, -1, 1, true);
-        LimbRows x = filled();
+        LimbRows x = Checks.filled();
         Checks.due("itself: copy(2, 2)", x.copy(2, 2), true);
-        dueNumber("itself: copy(2, 2)", x, 2, Checks.power(95).negate());
+        Checks.dueNumber("itself: copy(2, 2)", x, 2, Checks.power(95).negate());
         x.copy(3, 0);
         x.set(0, 4);
-        dueNumber("the copy stands by itself", x, 3, -7);
-        for (int r : NO_ROWS) {
-            Checks.dueNoRow("copy(" + r + ", 1)", x, () -> x.copy(r, 1));
-            Checks.dueNoRow("copy(1, " + r + ")", x, () -> x.copy(1, r));
-        }
+        Checks.dueNumber("the copy stands by itself", x, 3, -7);
     }
 
     private static void copyOne(int from, long v, int n, boolean fits) {
@@ -224,8 +169,8 @@ public final class PromisesTest {
         LimbRows x = with(from, v);
         Checks.give(x, 1, n, Checks.power(32 * n - 2).add(Checks.big(3)));
         Checks.due(call, x.copy(1, 0), fits);
-        dueNumber(call, x, 1, Checks.kept(Checks.big(v), n));
-        dueNumber(call + ": the source", x, 0, v);
+        Checks.dueNumber(call, x, 1, Checks.kept(Checks.big(v), n));
+        Checks.dueNumber(call + ": the source", x, 0, v);
         Checks.due(call + " then width(1)", x.width(1), n);
     }
 
@@ -240,13 +185,8 @@ public final class PromisesTest {
         addOne(2, Long.MIN_VALUE, 2, Long.MIN_VALUE);
         LimbRows x = with(1, 0x40000000);
         Checks.due("itself: add(0, 0)", x.add(0, 0), -1);
-        dueNumber("itself: add(0, 0)", x, 0, Integer.MIN_VALUE);
+        Checks.dueNumber("itself: add(0, 0)", x, 0, Integer.MIN_VALUE);
         Checks.due("itself again: add(0, 0)", x.add(0, 0), 0);
-        LimbRows y = filled();
-        for (int r : NO_ROWS) {
-            Checks.dueNoRow("add(" + r + ", 1)", y, () -> y.add(r, 1));
-            Checks.dueNoRow("add(1, " + r + ")", y, () -> y.add(1, r));
-        }
     }
 
     private static void addOne(int n, long v, int m, long w) {
@@ -255,8 +195,8 @@ public final class PromisesTest {
         Checks.give(x, 1, m, Checks.big(w));
         BigInteger want = Checks.kept(Checks.big(v).add(Checks.big(w)), n);
         Checks.due(call, x.add(0, 1), want.signum());
-        dueNumber(call, x, 0, want);
-        dueNumber(call + ": the other", x, 1, w);
+        Checks.dueNumber(call, x, 0, want);
+        Checks.dueNumber(call + ": the other", x, 1, w);
     }
 
     private static void subtract() {
@@ -270,12 +210,7 @@ public final class PromisesTest {
         subtractOne(256, 0, 1, 1);
         LimbRows x = with(3, -77);
         Checks.due("itself: subtract(0, 0)", x.subtract(0, 0), 0);
-        dueNumber("itself: subtract(0, 0)", x, 0, 0);
-        LimbRows y = filled();
-        for (int r : NO_ROWS) {
-            Checks.dueNoRow("subtract(" + r + ", 1)", y, () -> y.subtract(r, 1));
-            Checks.dueNoRow("subtract(1, " + r + ")", y, () -> y.subtract(1, r));
-        }
+        Checks.dueNumber("itself: subtract(0, 0)", x, 0, 0);
     }
 
     private static void subtractOne(int n, long v, int m, long w) {
@@ -284,8 +219,8 @@ public final class PromisesTest {
         Checks.give(x, 1, m, Checks.big(w));
         BigInteger want = Checks.kept(Checks.big(v).subtract(Checks.big(w)), n);
         Checks.due(call, x.subtract(0, 1), want.signum());
-        dueNumber(call, x, 0, want);
-        dueNumber(call + ": the other", x, 1, w);
+        Checks.dueNumber(call, x, 0, want);
+        Checks.dueNumber(call + ": the other", x, 1, w);
     }
 
     private static void addProduct() {
@@ -293,24 +228,12 @@ public final class PromisesTest {
         x.set(1, 6);
         x.set(2, -7);
         Checks.due("10 and 6 * -7: addProduct(0, 1, 2)", x.addProduct(0, 1, 2), -1);
-        dueNumber("10 and 6 * -7: addProduct(0, 1, 2)", x, 0, -32);
+        Checks.dueNumber("10 and 6 * -7: addProduct(0, 1, 2)", x, 0, -32);
         Checks.due("-32 and 6 * 6: addProduct(0, 1, 1)", x.addProduct(0, 1, 1), 1);
-        dueNumber("-32 and 6 * 6: addProduct(0, 1, 1)", x, 0, 4);
+        Checks.dueNumber("-32 and 6 * 6: addProduct(0, 1, 1)", x, 0, 4);
         x.set(1, 2);
         x.set(2, -2);
         Checks.due("4 and 2 * -2: addProduct(0, 1, 2)", x.addProduct(0, 1, 2), 0);
-        LimbRows y = filled();
-        for (int r : NO_ROWS) {
-            Checks.dueNoRow("addProduct(" + r + ", 1, 2)", y, () -> y.addProduct(r, 1, 2));
-            Checks.dueNoRow("addProduct(0, " + r + ", 2)", y, () -> y.addProduct(0, r, 2));
-            Checks.dueNoRow("addProduct(0, 1, " + r + ")", y, () -> y.addProduct(0, 1, r));
-            Checks.dueNoRow("addProduct(0, 0, " + r + ")", y, () -> y.addProduct(0, 0, r));
-            Checks.dueNoRow("addProduct(0, " + r + ", 0)", y, () -> y.addProduct(0, r, 0));
-            Checks.dueNoRow("addProduct(" + r + ", " + r + ", 0)", y, () -> y.addProduct(r, r, 0));
-        }
-        Checks.dueBadArgument("addProduct(1, 1, 2)", y, () -> y.addProduct(1, 1, 2));
-        Checks.dueBadArgument("addProduct(1, 2, 1)", y, () -> y.addProduct(1, 2, 1));
-        Checks.dueBadArgument("addProduct(1, 1, 1)", y, () -> y.addProduct(1, 1, 1));
     }
 
     private static void subtractProduct() {
@@ -318,25 +241,13 @@ public final class PromisesTest {
         x.set(1, 6);
         x.set(2, 7);
         Checks.due("10 less 6 * 7: subtractProduct(0, 1, 2)", x.subtractProduct(0, 1, 2), -1);
-        dueNumber("10 less 6 * 7: subtractProduct(0, 1, 2)", x, 0, -32);
+        Checks.dueNumber("10 less 6 * 7: subtractProduct(0, 1, 2)", x, 0, -32);
         x.set(2, -6);
         Checks.due("-32 less 6 * -6: subtractProduct(0, 1, 2)", x.subtractProduct(0, 1, 2), 1);
-        dueNumber("-32 less 6 * -6: subtractProduct(0, 1, 2)", x, 0, 4);
+        Checks.dueNumber("-32 less 6 * -6: subtractProduct(0, 1, 2)", x, 0, 4);
         x.set(1, 2);
         Checks.due("4 less 2 * 2: subtractProduct(0, 1, 1)", x.subtractProduct(0, 1, 1), 0);
-        dueNumber("4 less 2 * 2: subtractProduct(0, 1, 1)", x, 0, 0);
-        LimbRows y = filled();
-        for (int r : NO_ROWS) {
-            Checks.dueNoRow("subtractProduct(" + r + ", 1, 2)", y, () -> y.subtractProduct(r, 1, 2));
-            Checks.dueNoRow("subtractProduct(0, " + r + ", 2)", y, () -> y.subtractProduct(0, r, 2));
-            Checks.dueNoRow("subtractProduct(0, 1, " + r + ")", y, () -> y.subtractProduct(0, 1, r));
-            Checks.dueNoRow("subtractProduct(0, 0, " + r + ")", y, () -> y.subtractProduct(0, 0, r));
-            Checks.dueNoRow("subtractProduct(0, " + r + ", 0)", y, () -> y.subtractProduct(0, r, 0));
-            Checks.dueNoRow("subtractProduct(" + r + ", " + r + ", 0)", y, () -> y.subtractProduct(r, r, 0));
-        }
-        Checks.dueBadArgument("subtractProduct(1, 1, 2)", y, () -> y.subtractProduct(1, 1, 2));
-        Checks.dueBadArgument("subtractProduct(1, 2, 1)", y, () -> y.subtractProduct(1, 2, 1));
-        Checks.dueBadArgument("subtractProduct(1, 1, 1)", y, () -> y.subtractProduct(1, 1, 1));
+        Checks.dueNumber("4 less 2 * 2: subtractProduct(0, 1, 1)", x, 0, 0);
     }
 
     /** Least, greatest and plain factors of all widths against a row that is narrower, as wide, and wider. */
@@ -361,19 +272,35 @@ public final class PromisesTest {
     }
 
     private static void productBothWays(int n, int p, BigInteger a, int q, BigInteger b) {
-        LimbRows x = with(n, Checks.power(32 * n - 1).subtract(Checks.big(2)));
+        String call = n + " limbs, " + p + " of sign " + a.signum() + " by " + q + " of sign " + b.signum();
+        BigInteger most = Checks.power(32 * n - 1).subtract(ONE);
+        LimbRows x = withFactors(n, most, p, a, q, b);
+        BigInteger up = Checks.kept(most.add(a.multiply(b)), n);
+        Checks.due(call + ": addProduct(0, 1, 2)", x.addProduct(0, 1, 2), up.signum());
+        Checks.dueNumber(call + ": addProduct(0, 1, 2)", x, 0, up);
+        dueFactorsAsBefore(call + ": addProduct(0, 1, 2)", x);
+        LimbRows y = withFactors(n, ONE, p, a, q, b);
+        BigInteger down = Checks.kept(ONE.subtract(a.multiply(b)), n);
+        Checks.due(call + ": subtractProduct(0, 1, 2)", y.subtractProduct(0, 1, 2), down.signum());
+        Checks.dueNumber(call + ": subtractProduct(0, 1, 2)", y, 0, down);
+        dueFactorsAsBefore(call + ": subtractProduct(0, 1, 2)", y);
+    }
+
+    /** The factors stand in rows 1 and 2, and once more in rows 3 and 4, where no call touches them. */
+    private static LimbRows withFactors(int n, BigInteger v, int p, BigInteger a, int q, BigInteger b) {
+        LimbRows x = with(n, v);
         Checks.give(x, 1, p, a);
         Checks.give(x, 2, q, b);
-        String call = n + " limbs, " + p + " of sign " + a.signum() + " by " + q + " of sign " + b.signum();
-        BigInteger up = Checks.kept(Checks.number(x, 0).add(a.multiply(b)), n);
-        Checks.due(call + ": addProduct(0, 1, 2)", x.addProduct(0, 1, 2), up.signum());
-        dueNumber(call + ": addProduct(0, 1, 2)", x, 0, up);
-        x.set(0, 1);
-        BigInteger down = Checks.kept(ONE.subtract(a.multiply(b)), n);
-        Checks.due(call + ": subtractProduct(0, 1, 2)", x.subtractProduct(0, 1, 2), down.signum());
-        dueNumber(call + ": subtractProduct(0, 1, 2)", x, 0, down);
-        dueNumber(call + ": a", x, 1, a);
-        dueNumber(call + ": b", x, 2, b);
+        Checks.give(x, 3, p, a);
+        Checks.give(x, 4, q, b);
+        return x;
+    }
+
+    private static void dueFactorsAsBefore(String call, LimbRows x) {
+        Checks.due(call + " then compare(1, 3)", x.compare(1, 3), 0);
+        Checks.due(call + " then compare(2, 4)", x.compare(2, 4), 0);
+        Checks.due(call + " then width(1)", x.width(1), x.width(3));
+        Checks.due(call + " then width(2)", x.width(2), x.width(4));
     }
 
     private static void times() {
@@ -388,10 +315,6 @@ public final class PromisesTest {
                 timesOne(n, Checks.power(32 * n - 1).subtract(ONE), v);
             }
         }
-        LimbRows y = filled();
-        for (int r : NO_ROWS) {
-            Checks.dueNoRow("times(" + r + ", 2)", y, () -> y.times(r, 2));
-        }
     }
 
     private static void timesOne(int n, BigInteger a, long v) {
@@ -399,7 +322,7 @@ public final class PromisesTest {
         LimbRows x = with(n, a);
         BigInteger want = Checks.kept(a.multiply(Checks.big(v)), n);
         Checks.due(call, x.times(0, v), want.signum());
-        dueNumber(call, x, 0, want);
+        Checks.dueNumber(call, x, 0, want);
     }
 
     private static void negate() {
@@ -414,17 +337,13 @@ public final class PromisesTest {
         }
         negateOne(2, Checks.power(32), true);
         negateOne(2, Checks.power(32).negate(), true);
-        LimbRows y = filled();
-        for (int r : NO_ROWS) {
-            Checks.dueNoRow("negate(" + r + ")", y, () -> y.negate(r));
-        }
     }
 
     private static void negateOne(int n, BigInteger a, boolean fits) {
         String call = n + " limbs, " + a.toString(16) + ": negate(0)";
         LimbRows x = with(n, a);
         Checks.due(call, x.negate(0), fits);
-        dueNumber(call, x, 0, Checks.kept(a.negate(), n));
+        Checks.dueNumber(call, x, 0, Checks.kept(a.negate(), n));
     }
 
     private static void left() {
@@ -435,17 +354,9 @@ public final class PromisesTest {
                     LimbRows x = with(n, a);
                     BigInteger want = Checks.kept(a.shiftLeft(k), n);
                     Checks.due(call, x.left(0, k), want.signum());
-                    dueNumber(call, x, 0, want);
+                    Checks.dueNumber(call, x, 0, want);
                 }
             }
-        }
-        LimbRows y = filled();
-        for (int r : NO_ROWS) {
-            Checks.dueNoRow("left(" + r + ", 1)", y, () -> y.left(r, 1));
-            Checks.dueNoRow("left(" + r + ", -1)", y, () -> y.left(r, -1));
-        }
-        for (int k : new int[] {-1, 8193, Integer.MIN_VALUE, Integer.MAX_VALUE}) {
-            Checks.dueBadArgument("left(1, " + k + ")", y, () -> y.left(1, k));
         }
     }
 
@@ -457,25 +368,19 @@ public final class PromisesTest {
                     LimbRows x = with(n, a);
                     BigInteger want = a.shiftRight(k);
                     Checks.due(call, x.right(0, k), want.signum());
-                    dueNumber(call, x, 0, want);
+                    Checks.dueNumber(call, x, 0, want);
                 }
             }
         }
-        LimbRows y = filled();
-        for (int r : NO_ROWS) {
-            Checks.dueNoRow("right(" + r + ", 1)", y, () -> y.right(r, 1));
-            Checks.dueNoRow("right(" + r + ", 8193)", y, () -> y.right(r, 8193));
-        }
-        for (int k : new int[] {-1, 8193, Integer.MIN_VALUE, Integer.MAX_VALUE}) {
-            Checks.dueBadArgument("right(1, " + k + ")", y, () -> y.right(1, k));
-        }
     }
 
+    /** At the full width none of them takes more than 200 limbs to put, so that an object's 512 calls are enough. */
     private static BigInteger[] samples(int n) {
         BigInteger half = Checks.power(32 * n - 1);
         return new BigInteger[] {BigInteger.ZERO, ONE, ONE.negate(), Checks.big(0x6789ABCD), Checks.big(-0x6789ABCD),
-            half.negate(), half.negate().add(ONE), half.subtract(ONE), half.shiftRight(1), half.divide(Checks.big(3)),
-            half.divide(Checks.big(-3)), half.subtract(Checks.power(16 * n))};
+            half.negate(), half.negate().add(ONE), half.subtract(ONE), half.shiftRight(1),
+            Checks.power(24 * n).divide(Checks.big(3)), Checks.power(24 * n).divide(Checks.big(-3)),
+            half.subtract(Checks.power(16 * n))};
     }
 
     private static int[] shifts(int n) {
@@ -515,14 +420,6 @@ public final class PromisesTest {
                 }
             }
         }
-        LimbRows y = filled();
-        for (int r : NO_ROWS) {
-            Checks.dueNoRow("nearest(" + r + ", 1)", y, () -> y.nearest(r, 1));
-            Checks.dueNoRow("nearest(" + r + ", -1)", y, () -> y.nearest(r, -1));
-        }
-        for (int k : new int[] {-1, 8193, Integer.MIN_VALUE, Integer.MAX_VALUE}) {
-            Checks.dueBadArgument("nearest(1, " + k + ")", y, () -> y.nearest(1, k));
-        }
     }
 
     private static void nearestPlain(long v, int k, long want) {
@@ -534,7 +431,7 @@ public final class PromisesTest {
         String call = n + " limbs, " + a.toString(16) + ": nearest(0, " + k + ")";
         LimbRows x = with(n, a);
         Checks.due(call, x.nearest(0, k), want.signum());
-        dueNumber(call, x, 0, want);
+        Checks.dueNumber(call, x, 0, want);
     }
 
     private static BigInteger rounded(BigInteger a, int k) {
@@ -559,21 +456,13 @@ public final class PromisesTest {
                 }
             }
         }
-        LimbRows y = filled();
-        for (int r : NO_ROWS) {
-            Checks.dueNoRow("divide(" + r + ", 2)", y, () -> y.divide(r, 2));
-            Checks.dueNoRow("divide(" + r + ", 0)", y, () -> y.divide(r, 0));
-        }
-        for (long d : new long[] {0, -1, Long.MIN_VALUE, most + 1, Long.MAX_VALUE}) {
-            Checks.dueBadArgument("divide(1, " + d + ")", y, () -> y.divide(1, d));
-        }
     }
 
     private static void dividePlain(long v, long d, long quotient, long rest) {
         String call = v + ": divide(0, " + d + ")";
         LimbRows x = with(2, v);
         Checks.due(call, x.divide(0, d), rest);
-        dueNumber(call, x, 0, quotient);
+        Checks.dueNumber(call, x, 0, quotient);
     }
 
     private static void divideOne(int n, BigInteger a, long d) {
@@ -581,7 +470,7 @@ public final class PromisesTest {
         LimbRows x = with(n, a);
         BigInteger rest = a.mod(Checks.big(d));
         Checks.due(call, x.divide(0, d), rest.longValueExact());
-        dueNumber(call, x, 0, a.subtract(rest).divide(Checks.big(d)));
+        Checks.dueNumber(call, x, 0, a.subtract(rest).divide(Checks.big(d)));
     }
 
     private static void zeros() {
@@ -596,10 +485,6 @@ public final class PromisesTest {
         LimbRows narrowed = with(2, 0x700000000L);
         narrowed.widen(0, 1);
         Checks.due("cut to 0: zeros(0)", narrowed.zeros(0), 32);
-        LimbRows y = filled();
-        for (int r : NO_ROWS) {
-            Checks.dueNoRow("zeros(" + r + ")", y, () -> y.zeros(r));
-        }
     }
 
     private static void length() {
@@ -616,10 +501,6 @@ public final class PromisesTest {
                 }
             }
         }
-        LimbRows y = filled();
-        for (int r : NO_ROWS) {
-            Checks.dueNoRow("length(" + r + ")", y, () -> y.length(r));
-        }
     }
 
     private static void sign() {
@@ -630,10 +511,6 @@ public final class PromisesTest {
         }
         Checks.due("2^32 in 2 limbs: sign(0)", with(2, 0x100000000L).sign(0), 1);
         Checks.due("2^31 in 2 limbs: sign(0)", with(2, 0x80000000L).sign(0), 1);
-        LimbRows y = filled();
-        for (int r : NO_ROWS) {
-            Checks.dueNoRow("sign(" + r + ")", y, () -> y.sign(r));
-        }
     }
 
     private static void compare() {
@@ -651,11 +528,7 @@ public final class PromisesTest {
                 }
             }
         }
-        LimbRows y = filled();
+        LimbRows y = Checks.filled();
         Checks.due("itself: compare(2, 2)", y.compare(2, 2), 0);
-        for (int r : NO_ROWS) {
-            Checks.dueNoRow("compare(" + r + ", 1)", y, () -> y.compare(r, 1));
-            Checks.dueNoRow("compare(1, " + r + ")", y, () -> y.compare(1, r));
-        }
     }
 }

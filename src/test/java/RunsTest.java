@@ -1,10 +1,11 @@
 import java.math.BigInteger;
 import java.util.Random;
 
-/** Long runs of mixed calls, right and wrong ones, beside a model in BigInteger; the seed is fixed. */
+/** Runs of 512 mixed calls, right and wrong ones, beside a model in BigInteger; the seeds are fixed. */
 public final class RunsTest {
-    private static final int RUNS = 200;
+    private static final int RUNS = 3000;
     private static final int CALLS = 512;
+    private static final int NARROW = 8;
     private static final long MOST_DIVISOR = (1L << 62) - 1;
     private static final String[] NAMES = {"widen", "width", "set", "put", "limb", "copy", "add", "subtract",
         "addProduct", "subtractProduct", "times", "negate", "left", "right", "nearest", "divide", "zeros", "length",
@@ -15,7 +16,8 @@ public final class RunsTest {
     private final int widest;
     private final BigInteger[] numbers = new BigInteger[64];
     private final int[] widths = new int[64];
-    private LimbRows x = new LimbRows();
+    private final LimbRows x = new LimbRows();
+    private int callsLeft = CALLS;
 
     private RunsTest(int run) {
         random = new Random(run);
@@ -34,24 +36,70 @@ public final class RunsTest {
         Checks.finish();
     }
 
+    /** Some runs look at each call's rows, some seldom do and so come to more calls, some end with a whole row. */
     private void play(int run) {
-        for (int call = 0; call < CALLS; call++) {
-            int which = random.nextInt(NAMES.length);
+        int lookEach = 1 + run % 7;
+        int atTheEnd = run % 2 == 0 ? 0 : 260;
+        int named = 0;
+        for (int call = 1; callsLeft > atTheEnd; call++) {
             int a = row();
             int b = row();
-            int c = row();
-            int k = count(which);
-            long v = value();
-            String text = "run " + run + " call " + call + ": " + NAMES[which] + " of " + a + ", " + b + ", " + c
-                + ", " + k + ", " + v;
-            Object got;
-            try {
-                got = asked(which, a, b, c, k, v);
-            } catch (RuntimeException e) {
-                got = e.getClass().getSimpleName();
+            String text = mixedCall(run, call, a, b);
+            named = noRow(a) ? named : a;
+            if (call % lookEach == 0) {
+                look(text, named);
+                look(text, noRow(b) ? 63 : b);
             }
-            Checks.due(text, got, expected(which, a, b, c, k, v));
-            compareRows(text);
+        }
+        readWhole("run " + run + ", at its end", named);
+    }
+
+    private String mixedCall(int run, int call, int a, int b) {
+        int which = random.nextInt(NAMES.length);
+        int c = row();
+        int k = count(which);
+        long v = value();
+        String text = "run " + run + " call " + call + ": " + NAMES[which] + " of " + a + ", " + b + ", " + c
+            + ", " + k + ", " + v;
+        callsLeft--;
+        Object got;
+        try {
+            got = asked(which, a, b, c, k, v);
+        } catch (RuntimeException e) {
+            got = e.getClass().getSimpleName();
+        }
+        Checks.due(text, got, expected(which, a, b, c, k, v));
+        return text;
+    }
+
+    /** A narrow row is read whole, a wide one at both ends and between. */
+    private void look(String text, int r) {
+        if (widths[r] <= NARROW) {
+            readWhole(text, r);
+            return;
+        }
+        readLimb(text, r, 0);
+        readLimb(text, r, random.nextInt(widths[r]));
+        readLimb(text, r, random.nextInt(widths[r]));
+        readLimb(text, r, widths[r] - 1);
+        readLimb(text, r, widths[r]);
+    }
+
+    private void readWhole(String text, int r) {
+        if (callsLeft > 0) {
+            callsLeft--;
+            Checks.due(text + " then width(" + r + ")", x.width(r), widths[r]);
+        }
+        for (int k = 0; k < widths[r]; k++) {
+            readLimb(text, r, k);
+        }
+    }
+
+    private void readLimb(String text, int r, int k) {
+        if (callsLeft > 0) {
+            callsLeft--;
+            Checks.due(text + " then limb(" + r + ", " + k + ")", x.limb(r, k),
+                numbers[r].shiftRight(32 * k).intValue());
         }
     }
 
@@ -195,14 +243,5 @@ public final class RunsTest {
         long rest = numbers[r].mod(d).longValueExact();
         numbers[r] = floor(numbers[r], d);
         return rest;
-    }
-
-    private void compareRows(String text) {
-        for (int r = 0; r < 64; r++) {
-            if (r < rowsUsed || r == 63) {
-                Checks.due(text + " then width(" + r + ")", x.width(r), widths[r]);
-                Checks.due(text + " then row " + r, Checks.number(x, r), numbers[r]);
-            }
-        }
     }
 }
