@@ -428,9 +428,10 @@ public final class LimbRows {
                 return isNegative() ? -1 : 1;
             }
             for (int k = Math.max(width, other.width) - 1; k >= 0; k--) {
-                int here = Long.compare(unsigned(limbAt(k)), unsigned(other.limbAt(k)));
-                if (here != 0) {
-                    return here;
+                long mine = unsigned(limbAt(k));
+                long theirs = unsigned(other.limbAt(k));
+                if (mine != theirs) {
+                    return mine < theirs ? -1 : 1;
                 }
             }
             return 0;
